@@ -377,7 +377,9 @@ public final class LampYear {
         if (!proofs.isProof(proof) || !within(what, 0, 3)) {
             return deny(CANT_BE);
         }
-        year.reach(proofs.weekOf[proof] - 1);
+        if (what == 1 || what == 2) {
+            year.reach(proofs.weekOf[proof] - 1);
+        }
         switch (what) {
             case 0:
                 return answer(proofs.slipsOf[proof]);
@@ -457,7 +459,8 @@ public final class LampYear {
         if (!trays.reaches(lamps, 0, many) || !trays.reaches(teachers, 0, many)) {
             return deny(TOO_SHORT);
         }
-        if (!trays.startsWithUnlike(lamps, many, land.lamps) || !trays.startsWithUnlike(teachers, many, land.teachers)) {
+        if (!trays.startsWithUnlike(lamps, many, land.lamps)
+                || !trays.startsWithUnlike(teachers, many, land.teachers)) {
             return deny(CANT_BE);
         }
         sending.begin(many);
@@ -477,7 +480,8 @@ public final class LampYear {
     }
 
     public int count(int all, int drawn, int found, int what) {
-        if (!within(all, 1, MOST_COUNTED) || !within(drawn, 1, all) || !within(found, 0, drawn) || !within(what, 0, 1)) {
+        if (!within(all, 1, MOST_COUNTED) || !within(drawn, 1, all) || !within(found, 0, drawn)
+                || !within(what, 0, 1)) {
             return deny(CANT_BE);
         }
         return answer(what == 0 ? draws.low(all, drawn, found) : draws.high(all, drawn, found));

@@ -93,7 +93,7 @@ public final class AgainstPlainTest {
         int style = below(4);
         setUp(style);
         int more = style == 0 ? 60 : 110;
-        for (int i = 0; i < more && calls < 500 && !unlike; i++) {
+        for (int i = 0; i < more && calls < 230 && !unlike; i++) {
             int r = below(100);
             if (r < 8) note();
             else if (r < 12) orders();

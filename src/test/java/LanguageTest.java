@@ -1,0 +1,189 @@
+import java.lang.reflect.Constructor;
+import java.lang.reflect.Field;
+import java.lang.reflect.Method;
+import java.lang.reflect.Modifier;
+import java.nio.charset.StandardCharsets;
+import java.nio.file.Files;
+import java.nio.file.Path;
+import java.util.ArrayList;
+import java.util.HashSet;
+import java.util.List;
+import java.util.Set;
+import java.util.TreeSet;
+import java.util.regex.Matcher;
+import java.util.regex.Pattern;
+
+/** The rules of LANGUAGE.md that can be seen in the source or in the compiled class. */
+public final class LanguageTest {
+    private static final String FACE = """
+            public int status();
+            public boolean tray(int, int, int);
+            public boolean write(int, int, long);
+            public long read(int, int);
+            public boolean pour(int, int, int, int, int);
+            public int place(int);
+            public int way(int, int, int, int, int);
+            public int arrival(int, int, int);
+            public int learner(int, int, int);
+            public int teacher(int, int);
+            public int lamp(int);
+            public boolean note(int, int, int, int, int, int);
+            public boolean asof(int);
+            public int where(int, int, int);
+            public int lit(int, int);
+            public int feed(int, int, int, int, int);
+            public int orders(int, int, int);
+            public int fault(int);
+            public int rules(int, int, int);
+            public int struck(int, int, int);
+            public int taught(int, int, int);
+            public boolean lesson(int, int, int, int);
+            public boolean fade(int);
+            public int knows(int, int);
+            public int hours(int, int, int);
+            public int gap(int, int);
+            public int foretold(int, int, int, int);
+            public int proof(int, int, long, long);
+            public int slips(int, int);
+            public int owed(int, int);
+            public int reads(int, int);
+            public int flag(int, int);
+            public int send(int, int, int, int);
+            public int sent(int);
+            public int count(int, int, int, int);
+            public int near(int, int);
+            """;
+
+    private static int wrong = 0;
+
+    private LanguageTest() {
+    }
+
+    public static void main(String[] args) throws Exception {
+        String source = Files.readString(Path.of("src/main/java/LampYear.java"), StandardCharsets.ISO_8859_1);
+        face();
+        insides();
+        words(source);
+        lengths(source);
+        System.out.println(wrong == 0 ? "the rules that can be seen are kept" : wrong + " rules are broken");
+        if (wrong != 0) {
+            System.exit(1);
+        }
+    }
+
+    private static void rule(int number, boolean kept, String what) {
+        if (!kept) {
+            wrong++;
+            System.out.println("rule " + number + ": " + what);
+        }
+    }
+
+    private static void face() {
+        Class<?> c = LampYear.class;
+        rule(1, Modifier.isPublic(c.getModifiers()) && Modifier.isFinal(c.getModifiers()), "public and final");
+        Set<String> want = new TreeSet<>();
+        Set<String> names = new HashSet<>();
+        for (String line : FACE.split("\n")) {
+            want.add(line.replace("public ", "").replace(";", "").replace(" ", "").strip());
+        }
+        Set<String> got = new TreeSet<>();
+        for (Method m : c.getDeclaredMethods()) {
+            if (!Modifier.isPrivate(m.getModifiers())) {
+                StringBuilder s = new StringBuilder(m.getReturnType() + m.getName() + "(");
+                for (int i = 0; i < m.getParameterCount(); i++) {
+                    s.append(i == 0 ? "" : ",").append(m.getParameterTypes()[i]);
+                }
+                got.add(s.append(")").toString());
+                names.add(m.getName());
+                rule(1, Modifier.isPublic(m.getModifiers()) && !Modifier.isStatic(m.getModifiers()), "not of the face: " + m);
+            }
+        }
+        rule(1, want.equals(got), "the face is " + got);
+        for (Method m : c.getDeclaredMethods()) {
+            rule(1, !Modifier.isPrivate(m.getModifiers()) || !names.contains(m.getName()), "a private " + m.getName());
+        }
+        for (Field f : c.getDeclaredFields()) {
+            rule(1, Modifier.isPrivate(f.getModifiers()) || f.getName().equals("NONE"), "not of the face: " + f);
+        }
+        Constructor<?>[] made = c.getDeclaredConstructors();
+        rule(1, made.length == 1 && made[0].getParameterCount() == 0 && Modifier.isPublic(made[0].getModifiers()), "one constructor");
+    }
+
+    private static List<Class<?>> all() {
+        List<Class<?>> all = new ArrayList<>(List.of(LampYear.class));
+        all.addAll(List.of(LampYear.class.getDeclaredClasses()));
+        return all;
+    }
+
+    private static void insides() {
+        rule(11, all().size() <= 12, "there are " + all().size() + " classes");
+        for (Class<?> c : all()) {
+            rule(2, c == LampYear.class || Modifier.isStatic(c.getModifiers()), c + " is not static");
+            rule(2, c == LampYear.class || c.getDeclaredClasses().length == 0, c + " has classes inside");
+            int fields = 0;
+            for (Field f : c.getDeclaredFields()) {
+                boolean isStatic = Modifier.isStatic(f.getModifiers());
+                rule(5, !isStatic || Modifier.isFinal(f.getModifiers()), f + " is not final");
+                fields += isStatic ? 0 : 1;
+            }
+            rule(11, fields <= 20, c + " has " + fields + " fields");
+            for (Method m : c.getDeclaredMethods()) {
+                rule(11, m.getParameterCount() <= 7, m + " has too many parameters");
+            }
+        }
+    }
+
+    private static String bare(String source) {
+        return source.replaceAll("(?s)/\\*.*?\\*/", "").replaceAll("//[^\n]*", "")
+                .replaceAll("\"[^\"\n]*\"", "\"\"").replaceAll("'[^']*'", "'x'");
+    }
+
+    private static void words(String source) {
+        for (char ch : source.toCharArray()) {
+            rule(4, ch < 128, "a sign above 127");
+        }
+        String code = bare(source);
+        String[] never = {"throw", "throws", "try", "catch", "finally", "synchronized", "assert", "volatile", "native",
+            "transient", "protected", "package", "hashCode", "toString", "NaN", "Random", "Thread", "Object", "String.format",
+            "nanoTime", "currentTimeMillis", "getenv", "getProperty", "var"};
+        for (String w : never) {
+            rule(6, !Pattern.compile("\\b" + Pattern.quote(w) + "\\b").matcher(code).find(), w);
+        }
+        rule(2, !code.contains("->") && !code.contains("::"), "a lambda or a method reference");
+        rule(5, !Pattern.compile("static\\s*\\{").matcher(code).find(), "a static initialiser");
+        rule(4, !Pattern.compile("\\w+Exact\\b").matcher(code).find(), "an Exact one");
+        Matcher imports = Pattern.compile("import ([^;]+);").matcher(code);
+        while (imports.find()) {
+            rule(4, imports.group(1).equals("java.util.Arrays"), imports.group());
+        }
+        Matcher statics = Pattern.compile("\\b(System|Arrays|Math|Integer|Long)\\.(\\w+)").matcher(code);
+        Set<String> allowed = Set.of("System.arraycopy", "Arrays.fill", "Math.min", "Math.max", "Integer.bitCount");
+        while (statics.find()) {
+            rule(4, allowed.contains(statics.group()), statics.group());
+        }
+        Matcher made = Pattern.compile("new (\\w+)").matcher(code);
+        Set<String> own = new HashSet<>(Set.of("int", "long", "byte", "boolean"));
+        for (Class<?> c : all()) {
+            own.add(c.getSimpleName());
+        }
+        while (made.find()) {
+            rule(3, own.contains(made.group(1)), made.group());
+        }
+    }
+
+    private static void lengths(String source) {
+        String[] lines = source.split("\n");
+        Pattern head = Pattern.compile("^( {4}| {8})(?! )[^=;*/]*\\) \\{$");
+        for (int i = 0; i < lines.length; i++) {
+            rule(11, lines[i].length() <= 120, "line " + (i + 1) + " is long");
+            Matcher m = head.matcher(lines[i]);
+            if (m.find()) {
+                int end = i;
+                while (end < lines.length - 1 && !lines[end].equals(m.group(1) + "}")) {
+                    end++;
+                }
+                rule(11, end - i < 60, "a method of " + (end - i + 1) + " lines: " + lines[i].strip());
+            }
+        }
+    }
+}
