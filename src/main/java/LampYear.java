@@ -1170,6 +1170,14 @@ public final class LampYear {
                 "strikes may unless hours room pass flag or and not age tongue many week done rain shire ";
         private static final String SIGNS = ";:<>=+-*/()";
 
+        // FAULTS, as the document numbers them
+        private static final int NO_TOKEN = 1;
+        private static final int OUT_OF_PLACE = 2;
+        private static final int RULE_TOO_MANY = 3;
+        private static final int LABEL_TWICE = 4;
+        private static final int TOO_DEEP = 5;
+        private static final int WRONG_NUMBER = 6;
+
         // TOKENS; a SIGN is told by its own character, words by their place in WORDS
         private static final int BAD = 0;
         private static final int END = 1;
@@ -1269,7 +1277,7 @@ public final class LampYear {
             boolean ended = false;
             for (int step = 0; step <= n && !ended; step++) {
                 scan(n);
-                int kind = token == BAD ? 1 : take();
+                int kind = token == BAD ? NO_TOKEN : take();
                 if (kind != 0) {
                     faultKind = kind;
                     faultPlace = tokenPlace;
@@ -1364,7 +1372,7 @@ public final class LampYear {
         }
 
         private int takeOnly(int wanted, int to) {
-            return token == wanted ? goOn(to) : 2;
+            return token == wanted ? goOn(to) : OUT_OF_PLACE;
         }
 
         private int takeRule() {
@@ -1372,13 +1380,13 @@ public final class LampYear {
                 return 0;
             }
             if (token != NAME) {
-                return 2;
+                return OUT_OF_PLACE;
             }
             if (book.isFull()) {
-                return 3;
+                return RULE_TOO_MANY;
             }
             if (book.hasDraft(tokenWord)) {
-                return 4;
+                return LABEL_TWICE;
             }
             book.openRule(tokenWord);
             return goOn(STRIKES_OR_COLON);
@@ -1386,7 +1394,7 @@ public final class LampYear {
 
         private int takeStruckLabel() {
             if (token != NAME) {
-                return 2;
+                return OUT_OF_PLACE;
             }
             book.draftStrikes(tokenWord);
             return goOn(COLON);
@@ -1405,7 +1413,7 @@ public final class LampYear {
                 case FLAG:
                     return goOn(LIMIT);
                 default:
-                    return 2;
+                    return OUT_OF_PLACE;
             }
         }
 
@@ -1418,12 +1426,12 @@ public final class LampYear {
 
         private int takeLimit() {
             if (token != NUMBER) {
-                return 2;
+                return OUT_OF_PLACE;
             }
             int least = does == PASS ? 0 : 1;
             int greatest = does == FLAG ? 100 : 40;
             if (!within(tokenNumber, least, greatest)) {
-                return 6;
+                return WRONG_NUMBER;
             }
             book.draftLimit(tokenNumber);
             return goOn(SEMICOLON);
@@ -1440,7 +1448,7 @@ public final class LampYear {
         private int takeAtom() {
             if (token == '(') {
                 if (brackets >= MOST_BRACKETS) {
-                    return 5;
+                    return TOO_DEEP;
                 }
                 brackets++;
                 await('(');
@@ -1454,7 +1462,7 @@ public final class LampYear {
                 book.addCode(Book.FIRST_VARIABLE_CODE + token - FIRST_VARIABLE);
                 return goOn(BEHIND_ATOM);
             }
-            return 2;
+            return OUT_OF_PLACE;
         }
 
         private static boolean isReckoner(int c) {
@@ -1466,7 +1474,7 @@ public final class LampYear {
                 return takeOperator(sum, ATOM);
             }
             if (token != ')') {
-                return 2;
+                return OUT_OF_PLACE;
             }
             release(1);
             if (waits > 0) {
@@ -1481,16 +1489,16 @@ public final class LampYear {
                 case '<':
                 case '>':
                 case '=':
-                    return sum == AHEAD_OF_COMPARES ? takeOperator(BEHIND_COMPARES, ATOM) : 2;
+                    return sum == AHEAD_OF_COMPARES ? takeOperator(BEHIND_COMPARES, ATOM) : OUT_OF_PLACE;
                 case AND:
                 case OR:
-                    return sum == BEHIND_COMPARES ? takeOperator(AHEAD_OF_COMPARES, A_ONE) : 2;
+                    return sum == BEHIND_COMPARES ? takeOperator(AHEAD_OF_COMPARES, A_ONE) : OUT_OF_PLACE;
                 case UNLESS:
-                    return sum == AHEAD_OF_COMPARES || book.hasUnless() ? 2 : openUnless();
+                    return sum == AHEAD_OF_COMPARES || book.hasUnless() ? OUT_OF_PLACE : openUnless();
                 case ';':
-                    return sum == AHEAD_OF_COMPARES ? 2 : closeRule();
+                    return sum == AHEAD_OF_COMPARES ? OUT_OF_PLACE : closeRule();
                 default:
-                    return 2;
+                    return OUT_OF_PLACE;
             }
         }
 
@@ -1508,6 +1516,7 @@ public final class LampYear {
 
         // ---- operators that wait
 
+        /** The closer an operator binds, the greater. */
         private static int bindingOf(int operator) {
             switch (operator) {
                 case '(':

@@ -16,6 +16,7 @@ public final class LandTest {
         notesTooMany();
         teachersLamp();
         learnersLamp();
+        toldFirst();
         asOf();
         litBy();
         Due.end();
@@ -237,6 +238,21 @@ public final class LandTest {
         Due.is(x, "ILL is of TEACHERS", x.where(1, 2, 9), 1);
         Due.none(x, "another LEARNER", x.where(1, 1, 9), 6);
         Due.none(x, "no such LEARNER", x.where(1, 3, 9), 1);
+    }
+
+    /** AWAY and ILL hold though they were told ahead of all others. */
+    private static void toldFirst() {
+        LampYear x = staffed();
+        x.note(2, 0, NONE, 3, 3, 0);
+        x.note(1, 0, 1, 0, 59, 0);
+        Due.none(x, "AWAY", x.where(1, 0, 3), 6);
+        Due.is(x, "not AWAY", x.where(1, 0, 4), 1);
+        x = staffed();
+        x.note(3, 0, NONE, 3, 3, 0);
+        x.note(0, 0, 1, 0, 59, 0);
+        Due.none(x, "ILL", x.where(0, 0, 3), 6);
+        Due.none(x, "not LIT", x.lit(1, 3), 6);
+        Due.is(x, "not ILL", x.where(0, 0, 2), 1);
     }
 
     private static void asOf() {

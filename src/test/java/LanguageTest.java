@@ -64,6 +64,7 @@ public final class LanguageTest {
         face();
         insides();
         words(source);
+        nothingMade(source);
         lengths(source);
         System.out.println(wrong == 0 ? "the rules that can be seen are kept" : wrong + " rules are broken");
         if (wrong != 0) {
@@ -168,6 +169,19 @@ public final class LanguageTest {
         }
         while (made.find()) {
             rule(3, own.contains(made.group(1)), made.group());
+        }
+    }
+
+    /** Calls make nothing at all: rows are made with the object and used again. */
+    private static void nothingMade(String source) {
+        Pattern field = Pattern.compile("^ +private final [\\w\\[\\]]+ \\w+ = new .*;$");
+        Pattern ofLampYear = Pattern.compile("^        \\w+ = new \\w+\\([\\w, ]*\\);$");
+        for (String line : bare(source).split("\n")) {
+            if (line.contains("new ")) {
+                boolean atBirth = field.matcher(line).find() || ofLampYear.matcher(line).find()
+                        || line.strip().equals("standings[shire] = new Standing();");
+                rule(12, atBirth, "made in a call: " + line.strip());
+            }
         }
     }
 

@@ -16,6 +16,7 @@ public final class LessonsTest {
         taughtWithNothing();
         changesLater();
         asOfBackAndForth();
+        knownJustNow();
         foretelling();
         wrongAsking();
         Due.end();
@@ -83,6 +84,9 @@ public final class LessonsTest {
 
     private static void leftOver() {
         LampYear x = school(30, 0, 59);
+        Due.orders(x, "a:hours 7;", 0, 15);
+        Due.is(x, "one hour is left", x.hours(0, 1, 0), 1);
+        x = school(30, 0, 59);
         Due.orders(x, "a:hours 10;", 0, 15);
         x.lesson(1, 1, 1, 0);
         x.lesson(2, 1, 2, 0);
@@ -193,8 +197,10 @@ public final class LessonsTest {
         Due.orders(x, "a:hours 12;", 2, 1);
         Due.is(x, "ORDERS", x.knows(0, 2), 15);
         Due.is(x, "ahead of them", x.knows(0, 1), 3);
+        Due.is(x, "WEEK 0", x.knows(0, 0), 1);
         x.lesson(0, 18, 0, 1);
         Due.is(x, "a LESSON", x.knows(0, 2), 3);
+        Due.is(x, "a LESSON in WEEK 0", x.knows(0, 0), 0);
         x.place(0);
         Due.orders(x, "b:hours 20*rain;", 0, 1);
         Due.is(x, "no rain", x.knows(0, 0), 0);
@@ -222,6 +228,18 @@ public final class LessonsTest {
             x.asof(w);
             Due.is(x, "as of " + w, x.knows(0, 5), want[w]);
         }
+    }
+
+    private static void knownJustNow() {
+        LampYear x = school(30, 0, 59);
+        x.asof(8);
+        Due.is(x, "ahead", x.knows(0, 3), 15);
+        x.note(2, 0, NONE, 2, 2, 8);
+        Due.is(x, "KNOWN by the WEEK of AS OF", x.knows(0, 3), 7);
+        x.note(2, 0, NONE, 1, 1, 9);
+        Due.is(x, "KNOWN a WEEK behind it", x.knows(0, 3), 7);
+        x.asof(9);
+        Due.is(x, "and then", x.knows(0, 3), 3);
     }
 
     private static void foretelling() {

@@ -401,6 +401,7 @@ public final class OrdersTest {
         test("1+1=2 and 2*3-1>4", true);
         test("1<2 and 1=1 and 2>1", true);
         test("1=2 or 1=1 unless 1=2", true);
+        test("1=1 or 1=2 unless 1=2", true);
         test("1=2 or 1=1 unless 1=2 or 1=1", false);
         test("0-1<0", true);
         test("1=1 unless 1=2", true);

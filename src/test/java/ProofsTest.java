@@ -237,6 +237,8 @@ public final class ProofsTest {
         x.learner(1, 30, 0);
         Due.is(x, "of this HOME alone", x.flag(0, 0), 1);
         Due.is(x, "the other PLACE", x.flag(1, 0), 0);
+        prove(x, 2, 0, "a", "a");
+        Due.is(x, "one alone", x.flag(1, 0), 1);
         Due.orders(x, "a:flag 50;", 0, 1);
         x.learner(0, 30, 0);
         x.learner(0, 30, 0);
