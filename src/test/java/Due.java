@@ -2,8 +2,14 @@
 final class Due {
     private static int wrong = 0;
     private static int asked = 0;
+    private static String sentence = "";
 
     private Due() {
+    }
+
+    /** The sentence of the document that the next answers are due by; SentencesTest looks for it there. */
+    static void says(String ofDocument) {
+        sentence = ofDocument;
     }
 
     static void is(String what, long got, long want) {
@@ -11,6 +17,9 @@ final class Due {
         if (got != want) {
             wrong++;
             System.out.println(what + " answered " + got + ", due is " + want);
+            if (!sentence.isEmpty()) {
+                System.out.println("    by: " + sentence);
+            }
         }
     }
 
