@@ -435,6 +435,18 @@ public final class EdgeLandTest {
         Due.is(x, "all but one who is ILL", x.lit(11, 59), 1);
         Due.none(x, "another LAMP", x.lit(10, 59), 6);
 
+        // ILL and AWAY hold though they are the first NOTES of all
+        LampYear first = bare();
+        first.note(3, 0, NONE, 3, 3, 0);
+        first.note(0, 0, 0, 0, 59, 0);
+        Due.none(first, "ILL", first.lit(0, 3), 6);
+        Due.is(first, "well", first.lit(0, 4), 0);
+        first = bare();
+        first.note(2, 0, NONE, 3, 3, 0);
+        first.note(1, 0, 0, 0, 59, 0);
+        Due.none(first, "AWAY", first.where(1, 0, 3), 6);
+        Due.is(first, "there", first.where(1, 0, 2), 0);
+
         Due.says("The TEACHER of a LAMP in a WEEK (1; 6: it is not LIT).");
         Edge.ints("lit: LAMP", World.RICH, 0, World.LAMPS - 1, (y, v) -> y.lit(v, 40));
         Edge.none("lit: it is not", World.RICH, y -> y.lit(3, 39), 6);

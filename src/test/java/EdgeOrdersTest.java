@@ -13,6 +13,7 @@ public final class EdgeOrdersTest {
     public static void main(String[] args) {
         tape();
         takenOffTheTape();
+        cutInAWord();
         textsMany();
         inForce();
         sixHundredBytes();
@@ -29,6 +30,7 @@ public final class EdgeOrdersTest {
         numbersThatCant();
         firstAlongTheText();
         faultTells();
+        faultyLeaveNothing();
         Due.end();
     }
 
@@ -110,6 +112,35 @@ public final class EdgeOrdersTest {
         Edge.none("orders: 1 ahead of 9", World.RICH, x -> x.orders(1, 0, 16), 1);
         Edge.none("orders: 4 ahead of 9", World.FULL_TEXTS, x -> x.orders(1, 0, 15), 4);
         Edge.none("orders: 4, of an empty TEXT, too", World.FULL_TEXTS, x -> x.orders(0, 0, 15), 4);
+    }
+
+    private static void cut(String text, int n, int kind, int place) {
+        LampYear x = new LampYear();
+        Due.feed(x, text);
+        Due.none(x, n + " bytes of " + text, x.orders(n, 0, 1), 9);
+        Due.is("fault(0)", x.fault(0), kind);
+        Due.is("fault(1)", x.fault(1), place);
+    }
+
+    /** What stands on the tape behind the first n bytes does not belong to the TEXT. */
+    private static void cutInAWord() {
+        cut("a:room 1;", 5, 2, 2);
+        cut("a:hours age;", 10, 2, 8);
+        cut("a:pass 40;", 8, 2, 8);
+        cut("a:flag 1000;", 10, 2, 10);
+        cut("a:hours 12345;", 12, 2, 12);
+        cut("abcdefghi:room 1;", 8, 2, 8);
+        LampYear x = new LampYear();
+        Due.feed(x, "a:room 1;bcdefgh");
+        Due.is(x, "behind it nothing counts", x.orders(9, 0, 1), 1);
+        // nor does what stood on the tape ahead of the TEXT that was fed last
+        LampYear y = new LampYear();
+        Due.feed(y, " ".repeat(20) + "0;" + " ".repeat(18));
+        Due.none(y, "a NUMBER at first", y.orders(40, 0, 1), 9);
+        Due.feed(y, "            a:pass 4");
+        Due.none(y, "20 bytes, the NUMBER at their end", y.orders(20, 0, 1), 9);
+        Due.is("fault(0)", y.fault(0), 2);
+        Due.is("fault(1)", y.fault(1), 20);
     }
 
     private static void textsMany() {
@@ -283,8 +314,18 @@ public final class EdgeOrdersTest {
             bad("a:hours x" + w + ";", 2, 8);
             bad("a:hours " + "x".repeat(30) + w + ";", 2, 8);
         }
-        // LABELS of eight letters that differ in one alone are others
+        // LABELS that differ in one letter alone are others
         good("aaaaaaaa:room 1;aaaaaaab:room 1;baaaaaaa:room 1;aaaaaaa:room 1;", 4);
+        for (char c = 'a'; c <= 'z'; c++) {
+            StringBuilder first = new StringBuilder();
+            StringBuilder second = new StringBuilder();
+            for (int i = 0; i < 20; i++) {
+                first.append(c).append('z').append((char) ('a' + i)).append(":pass 1;");
+                second.append((char) ('g' + i)).append('z').append(c).append(":pass 1;");
+            }
+            good(first.toString(), 20);
+            good(second.toString(), 20);
+        }
     }
 
     // ---- the grammar: ahead of each place, what can stand there; nothing else can
@@ -572,5 +613,34 @@ public final class EdgeOrdersTest {
         for (int what : new int[] {Integer.MIN_VALUE, -1, 2, 9, 256, 257, Integer.MAX_VALUE}) {
             Due.is("fault(" + what + ")", x.fault(what), NONE);
         }
+    }
+
+    /** Behind a faulty TEXT the next one is read as if that had never been. */
+    private static void faultyLeaveNothing() {
+        Due.says("With another STATUS than 0 a call gives NONE, or false, and changes nothing else (but orders() with 9 the tape, "
+                + "and what fault() tells).");
+        LampYear x = World.school(30);
+        Due.none(x, "RULES that strike", Due.orders(x, "a strikes z:room 1;b strikes c:room 2;d strikes a:room 41;", 0, 1), 9);
+        Due.is(x, "RULES that don't", Due.orders(x, "c:room 5;z:pass 6;a:flag 7;", 0, 1), 3);
+        for (int r = 0; r < 3; r++) {
+            Due.is(x, "RULE " + r + " is not STRUCK", x.struck(0, 0, r), 0);
+        }
+        Due.none(x, "open brackets", Due.orders(x, "a:hours 1+(2*(3-((((4", 0, 1), 9);
+        Due.is(x, "six brackets", Due.orders(x, "b:hours 2*((((((1+3))))))-1;", 0, 1), 1);
+        Due.is(x, "HOURS", x.taught(0, 0, 2), 7);
+        Due.none(x, "unless", Due.orders(x, "a:hours 1 unless 1=1 and not 1=2 or", 0, 1), 9);
+        Due.is(x, "no unless", Due.orders(x, "d:hours 9;", 0, 1), 1);
+        Due.is(x, "HOURS", x.taught(0, 0, 2), 9);
+        LampYear not = World.school(30);
+        Due.none(not, "not at the end", Due.orders(not, "a:may not", 0, 1), 9);
+        Due.is(not, "no not", Due.orders(not, "a:may 1=1;", 0, 1), 1);
+        Due.is(not, "it holds", not.taught(0, 0, 0), 1);
+        // ten TEXTS of 600 bytes that are faulty at their end
+        LampYear y = World.school(30);
+        for (int i = 0; i < 10; i++) {
+            Due.none(y, "600 bytes", Due.orders(y, "a:hours 1" + "+1".repeat(295) + "?", 0, 1), 9);
+        }
+        Due.is(y, "one of 600 bytes", Due.orders(y, ones(600, "295"), 0, 1), 1);
+        Due.is(y, "295 ones", y.taught(0, 0, 0), 1);
     }
 }

@@ -12,6 +12,7 @@ public final class EdgeProofsTest {
         whateverIsKnown();
         fewest();
         firstWay();
+        oneBehindTheOther();
         ofWhichLetter();
         owedTo();
         aheadOfTheWeek();
@@ -132,55 +133,64 @@ public final class EdgeProofsTest {
         slips("abc", "cab", 2);
     }
 
-    /** Each of the letters a to o has a LESSON of its own: so it can be seen of which letters the SLIPS are. */
-    private static void of(String told, String written, String letters) {
-        LampYear x = World.places(1);
-        x.learner(0, 9, 0);
-        for (int k = 0; k < 15; k++) {
-            x.lesson(k, 6, 0, 1 << k);
-        }
-        World.prove(x, 0, 0, told, written);
-        for (int k = 0; k < 15; k++) {
-            int want = 0;
-            for (char c : letters.toCharArray()) {
-                want += c == 'a' + k ? 1 : 0;
-            }
-            Due.is(x, told + " to " + written + ": LESSON " + k, x.owed(0, k), want);
-        }
-        Due.is(x, told + " to " + written + ": all", x.slips(0, 1), letters.length());
-    }
-
     private static void firstWay() {
         Due.says("Of several ways the first: from the words' beginnings on, at each step: two letters that pair (like or unlike), "
                 + "ahead of one left out, ahead of one put in.");
         // a pairs with c, then b is left out - not a left out and b paired with c
-        of("ab", "c", "ab");
+        World.slipsAreOf("ab", "c", "ab");
         // a pairs with b, then c is put in - not b put in and a paired with c
-        of("a", "bc", "ac");
+        World.slipsAreOf("a", "bc", "ac");
         // a with b and b with a - not a left out and a put in behind b (of which both SLIPS would be a's)
-        of("ab", "ba", "ab");
+        World.slipsAreOf("ab", "ba", "ab");
         // a pairs with a, the second a is left out
-        of("aab", "ab", "a");
+        World.slipsAreOf("aab", "ab", "a");
         // two SLIPS by leaving a out and putting d in; three pairs unlike would be more
-        of("abc", "bcd", "ad");
+        World.slipsAreOf("abc", "bcd", "ad");
         // like letters may pair with a slip later: a with a, b with c, c left out is two; leaving b out is one
-        of("abc", "ac", "b");
+        World.slipsAreOf("abc", "ac", "b");
         // none pairs at first (two SLIPS then): c is put in, a and b pair, c is left out
-        of("abc", "cab", "cc");
+        World.slipsAreOf("abc", "cab", "cc");
         // left out ahead of put in: a is left out first, then b, c, d pair, and a is put in
-        of("abcd", "bcda", "aa");
-        of("abcdefgh", "ijklmno", "abcdefgh");
-        of("abc", "ijklmnoa", "abclmnoa");
+        World.slipsAreOf("abcd", "bcda", "aa");
+        World.slipsAreOf("abcdefgh", "ijklmno", "abcdefgh");
+        World.slipsAreOf("abc", "ijklmnoa", "abclmnoa");
+    }
+
+    /** SLIPS of a PROOF are its own, whatever words were told ahead of it. */
+    private static void oneBehindTheOther() {
+        String[] words = {"a", "ab", "abc", "abcdefgh", "b", "aby", "abx", "hgfedcba", "z", "bcdefghi"};
+        for (int i = 0; i < words.length; i++) {
+            for (int j = 0; j < words.length; j++) {
+                LampYear x = World.places(1);
+                x.learner(0, 9, 0);
+                World.prove(x, 0, 0, "abcdefgh", "abcdefgz");
+                World.prove(x, 0, 0, words[i], words[j]);
+                World.prove(x, 0, 0, "abx", "aby");
+                World.prove(x, 0, 0, words[j], words[i]);
+                World.prove(x, 0, 0, "ab", "a");
+                World.prove(x, 0, 0, "a", "ab");
+                Due.is(x, "first", x.slips(0, 0), 1);
+                Due.is(x, words[i] + " to " + words[j] + " and back", x.slips(1, 0), x.slips(3, 0));
+                Due.is(x, "b left out", x.owed(4, 1), 1);
+                Due.is(x, "b put in", x.owed(5, 1), 1);
+                LampYear alone = World.places(1);
+                alone.learner(0, 9, 0);
+                World.prove(alone, 0, 0, words[i], words[j]);
+                for (int k = 0; k < 15; k++) {
+                    Due.is(x, words[i] + " to " + words[j] + " as if it were alone", x.owed(1, k), alone.owed(0, k));
+                }
+            }
+        }
     }
 
     private static void ofWhichLetter() {
         Due.says("A SLIP is of the letter told (of one put in: of that written), and OWED to the first LESSON that teaches it, "
                 + "if that was not DONE behind the WEEK ahead (all are not ahead of WEEK 0); else it is OWN (also of a letter that "
                 + "no LESSON teaches).");
-        of("a", "b", "a");
-        of("ab", "b", "a");
-        of("b", "ab", "a");
-        of("b", "ba", "a");
+        World.slipsAreOf("a", "b", "a");
+        World.slipsAreOf("ab", "b", "a");
+        World.slipsAreOf("b", "ab", "a");
+        World.slipsAreOf("b", "ba", "a");
         LampYear x = World.places(1);
         x.learner(0, 9, 0);
         for (int k = 0; k < 15; k++) {

@@ -2,6 +2,7 @@ import java.lang.reflect.InvocationTargetException;
 import java.lang.reflect.Method;
 import java.lang.reflect.Modifier;
 import java.util.ArrayList;
+import java.util.Arrays;
 import java.util.Comparator;
 import java.util.List;
 import java.util.Random;
@@ -25,6 +26,8 @@ public final class EdgeStatusTest {
         orderOfAsking();
         faultyOrders();
         nothingElse();
+        askedAhead();
+        asOfForthAndBack();
         Due.end();
     }
 
@@ -235,39 +238,121 @@ public final class EdgeStatusTest {
         return face;
     }
 
+    private static Object[] some(Method m, Random dice) {
+        Object[] args = new Object[m.getParameterCount()];
+        for (int k = 0; k < args.length; k++) {
+            int v = dice.nextInt(3) > 0 ? dice.nextInt(5) : POOL[dice.nextInt(POOL.length)];
+            if (m.getParameterTypes()[k] == long.class) {
+                args[k] = (long) v;
+            } else {
+                args[k] = v;
+            }
+        }
+        return args;
+    }
+
     /** Refused calls and calls that only ask, by chance: everything that can be asked is as it was. */
     private static void nothingElse() throws ReflectiveOperationException {
         Random dice = new Random(7);
         List<World.Make> worlds = List.of(World.RICH, World.NEW, World.FULL_WAYS, World.FULL_NOTES, World.FULL_TEXTS);
         for (Method m : face()) {
             for (int i = 0; i < 40; i++) {
-                Object[] args = new Object[m.getParameterCount()];
-                for (int k = 0; k < args.length; k++) {
-                    int v = dice.nextInt(3) > 0 ? dice.nextInt(5) : POOL[dice.nextInt(POOL.length)];
-                    if (m.getParameterTypes()[k] == long.class) {
-                        args[k] = (long) v;
-                    } else {
-                        args[k] = v;
-                    }
-                }
+                Object[] args = some(m, dice);
                 World.Make make = worlds.get(i % 3 > 0 ? 0 : dice.nextInt(worlds.size()));
                 LampYear x = make.make();
                 m.invoke(x, args);
                 boolean faulty = m.getName().equals("orders") && x.status() == 9;
                 if ((!CHANGES.contains(m.getName()) || x.status() != 0) && !faulty) {
-                    Edge.alike(m.getName() + java.util.Arrays.toString(args), () -> called(make, m, args), make);
+                    Edge.alike(m.getName() + Arrays.toString(args), () -> called(make.make(), m, args), make);
                 }
             }
         }
     }
 
-    private static LampYear called(World.Make make, Method m, Object[] args) {
-        LampYear x = make.make();
+    private static LampYear called(LampYear x, Method m, Object[] args) {
         try {
             m.invoke(x, args);
         } catch (IllegalAccessException | InvocationTargetException e) {
             throw new IllegalStateException(e);
         }
+        return x;
+    }
+
+    /** RICH, of which much was asked already: of the last WEEK, and then of some ahead of it. */
+    private static LampYear asked() {
+        LampYear x = World.RICH.make();
+        for (int week : new int[] {59, 12, 8, 0}) {
+            for (int who = 0; who < World.LEARNERS; who++) {
+                x.taught(who, week, 2);
+                x.where(1, who, week);
+            }
+            for (int shire = 0; shire < 4; shire++) {
+                x.rules(shire, week, 0);
+            }
+            x.near(3, week);
+        }
+        return x;
+    }
+
+    /** What is told behind such asking counts for all WEEKS, as if nothing had been asked. */
+    private static void askedAhead() {
+        Due.says("By WEEKS from 0 on");
+        Edge.alike("asking", EdgeStatusTest::asked, World.RICH);
+        Random dice = new Random(8);
+        List<Told> told = new ArrayList<>(List.of(
+                x -> x.way(0, 2, 1, 0, 59), x -> x.way(1, 4, 1, 0, 0), x -> x.way(2, 4, 9, NONE, NONE), x -> x.learner(0, 20, 0),
+                x -> x.note(0, 1, 0, 0, 59, LATEST - 1), x -> x.note(2, 0, NONE, 0, 0, LATEST), x -> x.note(1, 4, 1, 0, 0, LATEST),
+                x -> x.asof(LATEST), x -> x.asof(59), x -> x.asof(0), x -> x.asof(1), x -> x.asof(4), x -> x.asof(3),
+                x -> x.orders(40, 0, 15), x -> x.orders(40, 8, 1), x -> x.orders(40, 59, 15), x -> x.fade(1), x -> x.fade(20),
+                x -> x.lesson(0, 1, 0, 1), x -> x.lesson(0, 60, 0, 1), x -> x.lesson(14, 1, 0, 1 << 25),
+                x -> x.lesson(4, 9, 15, 0), x -> x.proof(3, 0, 1, 1), x -> x.lamp(2), x -> x.teacher(31, 0), x -> x.place(0)));
+        for (Method m : face()) {
+            for (int i = 0; CHANGES.contains(m.getName()) && i < 12; i++) {
+                Object[] args = some(m, dice);
+                told.add(x -> called(x, m, args));
+            }
+        }
+        for (int i = 0; i < told.size(); i++) {
+            Told t = told.get(i);
+            World.Make make = () -> telling(World.RICH.make(), t);
+            Edge.alike("telling " + i, () -> telling(asked(), t), make);
+        }
+    }
+
+    private interface Told {
+        void to(LampYear x);
+    }
+
+    private static LampYear telling(LampYear x, Told t) {
+        t.to(x);
+        return x;
+    }
+
+    /** AS OF goes over each NOTE and back, with the last WEEK asked in between; the first NOTE of all is among them. */
+    private static void asOfForthAndBack() {
+        Due.says("AS OF a WEEK (59 at first) all is told by the NOTES then KNOWN.");
+        int[] order = {59, 0, 1, 2, 3, 4, 59, 4, 3, 2, 1, 0, 59, 3, 1, 4, 2, 0, 3, 0, 4, 1, 59};
+        LampYear x = noted();
+        for (int week : order) {
+            LampYear fresh = noted();
+            x.asof(week);
+            fresh.asof(week);
+            for (int w : new int[] {59, 5, 0}) {
+                Due.is(x, "as of " + week + ": behind WEEK " + w, x.knows(0, w), fresh.knows(0, w));
+                Due.is(x, "as of " + week + ": GAPS behind WEEK " + w, x.gap(0, w), fresh.gap(0, w));
+            }
+        }
+    }
+
+    private static LampYear noted() {
+        LampYear x = World.places(1);
+        x.lamp(0);
+        x.teacher(1, 0);
+        x.learner(0, 9, 0);
+        x.note(0, 0, 0, 0, 59, 1);
+        x.note(1, 0, 0, 0, 59, 2);
+        x.note(2, 0, NONE, 0, 0, 3);
+        x.note(3, 0, NONE, 4, 20, 4);
         return x;
     }
 }

@@ -18,6 +18,7 @@ public final class EdgeTaughtTest {
         mayBeTaught();
         firstByNumber();
         hours();
+        testing();
         reckoning();
         dividing();
         taughtThatCant();
@@ -259,6 +260,11 @@ public final class EdgeTaughtTest {
         z.way(0, 1, 1, 0, 59);
         Due.is(z, "WEEK 0 of all", z.taught(0, 0, 2), 11);
         Due.is(z, "WEEK 59 of all", z.taught(0, 59, 2), 11);
+        LampYear u = taughtBy(0, "10+rain");
+        u.place(0);
+        Due.is(u, "no WAY yet", u.taught(0, 0, 2), 10);
+        u.way(0, 1, 1, 0, 0);
+        Due.is(u, "a WAY that was told later", u.taught(0, 0, 2), 11);
     }
 
     private static LampYear schoolBy(String rules) {
@@ -289,6 +295,15 @@ public final class EdgeTaughtTest {
         Due.is("the one that holds is STRUCK", may("a:may 1=1;b strikes a:may 1=2;"), 0);
         Due.is("the one that does not is STRUCK", may("a:may 1=2;b strikes a:room 1;"), 1);
         Due.is("all are STRUCK", may("a:may 1=2;b:may 1=2;c strikes a:room 1;d strikes b:room 1;"), 1);
+        LampYear x = World.school(30);
+        Due.orders(x, "a:may 1=2;b:hours 1;", 0, 1);
+        Due.orders(x, "c strikes a:room 1;d strikes b:hours 2;", 5, 1);
+        Due.orders(x, "e:may 1=2;f strikes d:room 1;", 6, 1);
+        int[][] want = {{0, 0, NONE}, {5, 1, 2}, {4, 0, NONE}, {6, 0, NONE}, {5, 1, 2}, {59, 0, NONE}};
+        for (int[] w : want) {
+            Due.is(x, "what stands in WEEK " + w[0], x.taught(0, w[0], 0), w[1]);
+            Due.is("HOURS by what stands in WEEK " + w[0], x.taught(0, w[0], 2), w[2]);
+        }
         Due.is("age at its edge", may("a:may age<30;"), 0);
         Due.is("age at its edge", may("a:may age<31;"), 1);
         Due.is("age at its edge", may("a:may age>30;"), 0);
@@ -361,6 +376,59 @@ public final class EdgeTaughtTest {
 
     private static void holds(String test, int want) {
         Due.is("may " + test, may("a:may " + test + ";"), want);
+    }
+
+    private static void testing() {
+        Due.says("ONE: [not] SUM COMPARES SUM.");
+        holds("not 1=1", 0);
+        holds("not 1=2", 1);
+        holds("not 1<2", 0);
+        holds("not 1>2", 1);
+        holds("not 1+1=2", 0);
+        Due.says("COMPARES: < or > or =");
+        int[][] want = {{1, 2, 1, 0, 0}, {2, 2, 0, 0, 1}, {2, 1, 0, 1, 0}};
+        for (int[] w : want) {
+            holds(w[0] + "<" + w[1], w[2]);
+            holds(w[0] + ">" + w[1], w[3]);
+            holds(w[0] + "=" + w[1], w[4]);
+            holds("0-" + w[1] + "<0-" + w[0], w[2]);
+        }
+        Due.says("PART: ONE {and ONE}.");
+        Due.says("TEST: PART {or PART}.");
+        String[] ones = {"1=2", "1=1"};
+        for (int i = 0; i < 8; i++) {
+            int a = i & 1;
+            int b = i >> 1 & 1;
+            int c = i >> 2;
+            holds(ones[a] + " and " + ones[b], a & b);
+            holds(ones[a] + " or " + ones[b], a | b);
+            holds(ones[a] + " and " + ones[b] + " or " + ones[c], a & b | c);
+            holds(ones[a] + " or " + ones[b] + " and " + ones[c], a | b & c);
+            holds(ones[a] + " or " + ones[b] + " or " + ones[c], a | b | c);
+            holds(ones[a] + " and " + ones[b] + " and " + ones[c], a & b & c);
+            holds("not " + ones[a] + " and " + ones[b] + " or " + ones[c], (1 - a) & b | c);
+            holds(ones[a] + " or not " + ones[b] + " and " + ones[c], a | (1 - b) & c);
+            holds(ones[a] + " or " + ones[b] + " unless " + ones[c], (a | b) & (1 - c));
+            holds(ones[a] + " and " + ones[b] + " unless " + ones[c], a & b & (1 - c));
+            holds(ones[a] + " unless " + ones[b] + " or " + ones[c], a & (1 - (b | c)));
+            holds(ones[a] + " unless not " + ones[b] + " and " + ones[c], a & (1 - ((1 - b) & c)));
+        }
+        Due.says("SUM: ITEM {+ ITEM, or - ITEM}.");
+        holds("9-4-3=2", 1);
+        holds("9-(4-3)=8", 1);
+        holds("9-4+3=8", 1);
+        holds("1+2+3-4-5=0-3", 1);
+        Due.says("ITEM: ATOM {* ATOM, or / ATOM}.");
+        holds("2+3*4=14", 1);
+        holds("2*3+4=10", 1);
+        holds("20-8/4*2=16", 1);
+        holds("100/5/2=10", 1);
+        holds("100/(5/2)=50", 1);
+        holds("7/2*2=6", 1);
+        Due.says("ATOM: NUMBER, a VARIABLE, or ( SUM ).");
+        holds("(2+3)*4=20", 1);
+        holds("2*(3+4)-((5))=9", 1);
+        holds("age*(age-29)=30", 1);
     }
 
     private static void reckoning() {

@@ -79,41 +79,24 @@ public final class ProofsTest {
         count("z", "aaaaaaaz", 7);
     }
 
-    /** Each letter has a LESSON of its own here, as far as 15 go: which letters the SLIPS are of can be seen. */
-    private static void way(String told, String written, String of) {
-        LampYear x = land();
-        for (int k = 0; k < 15; k++) {
-            x.lesson(k, 6, 0, 1 << k);
-        }
-        int p = prove(x, 0, 0, told, written);
-        for (int k = 0; k < 15; k++) {
-            int want = 0;
-            for (char c : of.toCharArray()) {
-                want += c == 'a' + k ? 1 : 0;
-            }
-            Due.is(x, told + " " + written + ": LESSON " + k, x.owed(p, k), want);
-        }
-        Due.is(x, told + " " + written + ": SLIPS", x.slips(p, 0), of.length());
-    }
-
     private static void firstWay() {
-        way("ab", "b", "a");
-        way("b", "ab", "a");
-        way("abc", "abd", "c");
+        World.slipsAreOf("ab", "b", "a");
+        World.slipsAreOf("b", "ab", "a");
+        World.slipsAreOf("abc", "abd", "c");
         // pairs first: a with b, then b is left out
-        way("ab", "c", "ab");
+        World.slipsAreOf("ab", "c", "ab");
         // a is written c, then b put in
-        way("a", "cb", "ab");
+        World.slipsAreOf("a", "cb", "ab");
         // pairs first, though unlike: ab to ba is two in place of others
-        way("ab", "ba", "ab");
+        World.slipsAreOf("ab", "ba", "ab");
         // pair a with a, b with c, c left out - not b left out, c with c? that is fewer
-        way("abc", "ac", "b");
+        World.slipsAreOf("abc", "ac", "b");
         // pairing the first a needs one left out behind it
-        way("aab", "ab", "a");
-        way("abcd", "bcde", "ae");
+        World.slipsAreOf("aab", "ab", "a");
+        World.slipsAreOf("abcd", "bcde", "ae");
         // one left out ahead of one put in, where no pair is as good
-        way("abcab", "bcabd", "ad");
-        way("abac", "cab", "abc");
+        World.slipsAreOf("abcab", "bcabd", "ad");
+        World.slipsAreOf("abac", "cab", "abc");
     }
 
     private static LampYear school() {

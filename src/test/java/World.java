@@ -146,6 +146,22 @@ final class World {
         return x;
     }
 
+    /** Which letters the SLIPS are of: each of the letters a to o has a LESSON of its own here, so it can be seen. */
+    static void slipsAreOf(String told, String written, String letters) {
+        LampYear x = places(1);
+        x.learner(0, 9, 0);
+        for (int k = 0; k < 15; k++) {
+            x.lesson(k, 6, 0, 1 << k);
+        }
+        prove(x, 0, 0, told, written);
+        for (int k = 0; k < 15; k++) {
+            char letter = (char) ('a' + k);
+            Due.is(x, told + " to " + written + ": SLIPS of " + letter, x.owed(0, k),
+                    letters.chars().filter(c -> c == letter).count());
+        }
+        Due.is(x, told + " to " + written + ": SLIPS", x.slips(0, 0), letters.length());
+    }
+
     // ---- one thing full
 
     private static LampYear fullPlaces() {
