@@ -3,13 +3,15 @@ final class Due {
     private static int wrong = 0;
     private static int asked = 0;
     private static String sentence = "";
+    private static int askedAhead = 0;
 
     private Due() {
     }
 
-    /** The sentence of the document that the next answers are due by; SentencesTest looks for it there. */
+    /** The sentence (or sentences, told one behind the other) of the document that the next answers are due by. */
     static void says(String ofDocument) {
-        sentence = ofDocument;
+        sentence = asked == askedAhead && asked > 0 ? sentence + " AND " + ofDocument : ofDocument;
+        askedAhead = asked;
     }
 
     static void is(String what, long got, long want) {
