@@ -229,6 +229,9 @@ public final class EdgeProofsTest {
         Due.is(x, "WEEK 0: none is DONE ahead of it", x.slips(0, 1), 1);
         Due.is(x, "WEEK 1", x.slips(1, 1), 0);
         Due.is(x, "WEEK 59", x.slips(2, 1), 0);
+        Due.is(x, "WEEK 0: OWED to LESSON 0", x.owed(0, 0), 1);
+        Due.is(x, "WEEK 1: OWED to LESSON 0", x.owed(1, 0), 0);
+        Due.is(x, "WEEK 59: OWED to LESSON 0", x.owed(2, 0), 0);
         x.note(2, 0, NONE, 0, 59, 59);
         Due.is(x, "by what is KNOWN now", x.slips(1, 1), 1);
         x.asof(58);
