@@ -1,3 +1,4 @@
+import java.io.IOException;
 import java.lang.reflect.Constructor;
 import java.lang.reflect.Field;
 import java.lang.reflect.Method;
@@ -13,47 +14,8 @@ import java.util.TreeSet;
 import java.util.regex.Matcher;
 import java.util.regex.Pattern;
 
-/** The rules of LANGUAGE.md that can be seen in the source or in the compiled class. */
+/** The face as the document has it, and the rules of LANGUAGE.md that can be seen in the source or in the compiled class. */
 public final class LanguageTest {
-    private static final String FACE = """
-            public int status();
-            public boolean tray(int, int, int);
-            public boolean write(int, int, long);
-            public long read(int, int);
-            public boolean pour(int, int, int, int, int);
-            public int place(int);
-            public int way(int, int, int, int, int);
-            public int arrival(int, int, int);
-            public int learner(int, int, int);
-            public int teacher(int, int);
-            public int lamp(int);
-            public boolean note(int, int, int, int, int, int);
-            public boolean asof(int);
-            public int where(int, int, int);
-            public int lit(int, int);
-            public int feed(int, int, int, int, int);
-            public int orders(int, int, int);
-            public int fault(int);
-            public int rules(int, int, int);
-            public int struck(int, int, int);
-            public int taught(int, int, int);
-            public boolean lesson(int, int, int, int);
-            public boolean fade(int);
-            public int knows(int, int);
-            public int hours(int, int, int);
-            public int gap(int, int);
-            public int foretold(int, int, int, int);
-            public int proof(int, int, long, long);
-            public int slips(int, int);
-            public int owed(int, int);
-            public int reads(int, int);
-            public int flag(int, int);
-            public int send(int, int, int, int);
-            public int sent(int);
-            public int count(int, int, int, int);
-            public int near(int, int);
-            """;
-
     private static int wrong = 0;
 
     private LanguageTest() {
@@ -61,7 +23,9 @@ public final class LanguageTest {
 
     public static void main(String[] args) throws Exception {
         String source = Files.readString(Path.of("src/main/java/LampYear.java"), StandardCharsets.ISO_8859_1);
-        face();
+        List<String> told = toldFace();
+        face(told);
+        asWritten(source, told);
         insides();
         words(source);
         nothingMade(source);
@@ -79,13 +43,39 @@ public final class LanguageTest {
         }
     }
 
-    private static void face() {
+    /** The lines of the face, as the document has them between the class's brackets. */
+    private static List<String> toldFace() throws IOException {
+        String document = Files.readString(Path.of("../shared/DOC.md"), StandardCharsets.UTF_8);
+        Matcher m = Pattern.compile("(?s)public final class LampYear \\{\n(.*?)\n\\}").matcher(document);
+        List<String> lines = new ArrayList<>();
+        rule(1, m.find(), "the document has no face");
+        for (String line : m.group(1).split("\n")) {
+            lines.add(line.strip());
+        }
+        rule(1, lines.size() > 2, "the document's face is empty");
+        return lines;
+    }
+
+    /** Word by word, the names of the parameters too, and in the same order. */
+    private static void asWritten(String source, List<String> told) {
+        List<String> written = new ArrayList<>();
+        for (String line : source.split("\n")) {
+            if (line.startsWith("    public ")) {
+                written.add(line.strip().replaceAll(" \\{$", ";"));
+            }
+        }
+        rule(1, written.equals(told), "the face is written " + written);
+    }
+
+    private static void face(List<String> told) {
         Class<?> c = LampYear.class;
         rule(1, Modifier.isPublic(c.getModifiers()) && Modifier.isFinal(c.getModifiers()), "public and final");
         Set<String> want = new TreeSet<>();
         Set<String> names = new HashSet<>();
-        for (String line : FACE.split("\n")) {
-            want.add(line.replace("public ", "").replace(";", "").replace(" ", "").strip());
+        for (String line : told) {
+            if (line.contains("(") && !line.startsWith("public LampYear(")) {
+                want.add(line.replaceAll("^public |;| \\w+(?=[,)])", "").replace(" ", ""));
+            }
         }
         Set<String> got = new TreeSet<>();
         for (Method m : c.getDeclaredMethods()) {
@@ -100,8 +90,10 @@ public final class LanguageTest {
             }
         }
         rule(1, want.equals(got), "the face is " + got);
-        for (Method m : c.getDeclaredMethods()) {
-            rule(1, !Modifier.isPrivate(m.getModifiers()) || !names.contains(m.getName()), "a private " + m.getName());
+        for (Class<?> part : all()) {
+            for (Method m : part.getDeclaredMethods()) {
+                rule(1, part == c && Modifier.isPublic(m.getModifiers()) || !names.contains(m.getName()), "another " + m.getName());
+            }
         }
         for (Field f : c.getDeclaredFields()) {
             rule(1, Modifier.isPrivate(f.getModifiers()) || f.getName().equals("NONE"), "not of the face: " + f);

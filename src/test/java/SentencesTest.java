@@ -9,14 +9,29 @@ import java.util.stream.Collectors;
 import java.util.stream.Stream;
 
 /**
- * Each sentence of the document from its Terms on is named by a test (Due.says), word by word, and no test
- * names one that is not there: so a document that changes shows which tests must be looked at.
+ * Each sentence of the document is named by a test (Due.says), word by word, or stands here as one that asks for nothing,
+ * and no test names one that is not there: so a document that changes shows which tests must be looked at.
  */
 public final class SentencesTest {
     private static final Pattern SAYS = Pattern.compile("Due\\.says\\(((?:\\s*\"(?:[^\"\\\\]|\\\\.)*\"\\s*\\+?)+)\\)");
     private static final Pattern PIECE = Pattern.compile("\"((?:[^\"\\\\]|\\\\.)*)\"");
     /** What is no sentence: the numbers of the parts, and what is said of the order of the interface. */
     private static final List<String> HEADINGS = List.of("==== 2.", "==== 3.", "==== 4.", "==== 5.", "==== 6.", "The constants:");
+
+    /** What is told once more below, or says what is free. */
+    private static final List<String> ASKS_FOR_NOTHING = List.of(
+            "# LampYear",
+            "A headquarters of a year in which a land learns to read: places joined by ways that rains shut, teachers posted to "
+            + "lamps, learners who come, go away and come again, all as known by a week; orders as texts by weeks and shires that "
+            + "say who may be taught, how many at a lamp, for how many hours, what a proof is and when a flag is raised; lessons "
+            + "that lean on others, learnt by hours and forgotten in gaps; proofs by words written, slip by slip, and by which "
+            + "lesson each is owed; teachers sent so that the last one comes soonest; counts told up beside drawn ones; what will "
+            + "be read in spring. ==== 1.",
+            "How the state is held inside the object is free, as are the speed of each call, the text of toString and the "
+            + "behaviour of equals and hashCode.",
+            "Use of one object from several threads at once is not promised to be safe.",
+            "Nothing is promised beyond the answers and state changes described above, and nothing about an object after its "
+            + "512th call.");
 
     private static int wrong = 0;
 
@@ -36,6 +51,9 @@ public final class SentencesTest {
         }
         for (String heading : HEADINGS) {
             name(document, named, heading);
+        }
+        for (String free : ASKS_FOR_NOTHING) {
+            name(document, named, free);
         }
         tellUnnamed(document, named);
         System.out.println(wrong == 0 ? "tests name all sentences (" + sentences + " times)" : wrong + " sentences are wrong");
@@ -64,12 +82,11 @@ public final class SentencesTest {
         return s.toString();
     }
 
-    /** From the Terms to the last promise, and what is said of 512 calls; without headings and the calls' own lines. */
+    /** Without headings, the calls' own lines, and the face, which LanguageTest compares. */
     private static String plain(String document) {
-        String calls = document.substring(document.indexOf("An object is used for"), document.indexOf("## The public face"));
-        String body = document.substring(document.indexOf("## Terms"), document.indexOf("## Not promised"));
-        StringBuilder s = new StringBuilder(calls);
-        for (String line : body.split("\n")) {
+        String face = document.substring(document.indexOf("## The public face"), document.indexOf("## Terms"));
+        StringBuilder s = new StringBuilder();
+        for (String line : document.replace(face, "").split("\n")) {
             boolean isHeading = line.startsWith("## ") || line.startsWith("```") || line.startsWith("Ahead of the calls");
             s.append(' ').append(isHeading ? "" : line.replaceFirst("^`[^`]*\\)`:", ""));
         }
